@@ -557,11 +557,13 @@ public final class FloorsByLot {
         if (!isHousehold(h)) {
             return NO_SUCH;
         }
+        table.refresh();
         ringed.turn();
         return ringed.gets[h];
     }
 
     public int ringsMany() {
+        table.refresh();
         ringed.turn();
         return ringed.many;
     }
@@ -1577,8 +1579,8 @@ public final class FloorsByLot {
             this.table = table;
         }
 
+        /** Turns all rings by a fresh table, and moves nobody yet. */
         void turn() {
-            table.refresh();
             many = 0;
             moved = 0;
             int inside = 0;
@@ -1939,6 +1941,7 @@ public final class FloorsByLot {
         }
 
         int swapByRings() {
+            table.refresh();
             ringed.turn();
             for (int h = 0; h < house.households && ringed.moved > 0; h++) {
                 house.setHome(h, ringed.gets[h]);
