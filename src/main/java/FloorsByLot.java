@@ -1431,6 +1431,7 @@ public final class FloorsByLot {
      */
     private static final class Maps {
         private static final int LOWEST = -1_000_000_000;
+        private static final int HIGHEST = 1_000_000_000;
 
         /** Of each household and flat, in how many maps it has that flat; right behind tallyEach(). */
         final int[] having = new int[PAIRS];
@@ -1553,7 +1554,7 @@ public final class FloorsByLot {
         int greatestLeast(int[] worths) {
             for (int taken = (1 << flats) - 1; taken >= 0; taken--) {
                 int h = Integer.bitCount(taken);
-                value[taken] = h >= households ? Integer.MAX_VALUE : LOWEST;
+                value[taken] = h >= households ? HIGHEST : LOWEST;
                 for (int f = 0; f < flats && h < households; f++) {
                     if (goesOn(h, taken, f)) {
                         int least = Math.min(worths[h * MAX_FLATS + f], value[taken | 1 << f]);
@@ -1599,7 +1600,7 @@ public final class FloorsByLot {
         private int ownerWanted(int h, int inside) {
             int own = house.living.home[h];
             int wanted = h;
-            int most = Integer.MIN_VALUE;
+            int most = NO_WORTH;
             for (int f = 0; f < house.flats; f++) {
                 int owner = house.dwellerOf(f);
                 boolean open = owner != NONE && (inside >> owner & 1) != 0 && (f == own || table.permits(h, f));
@@ -1637,6 +1638,9 @@ public final class FloorsByLot {
 
     /** Harm, and the map with the least of it. */
     private static final class Quiet {
+        /** Above what seven households can do to one another. */
+        private static final int ANY_HARM = 1_000_000;
+
         int least = NONE;
         final int[] chosen = new int[MAX_HOUSEHOLDS];
         private final House house;
@@ -1678,7 +1682,7 @@ public final class FloorsByLot {
                     above[below[f]] = f;
                 }
             }
-            least = Integer.MAX_VALUE;
+            least = ANY_HARM;
             seek(chart, 0, 0, 0);
             soughtFor = house.change;
         }

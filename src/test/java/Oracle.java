@@ -155,6 +155,7 @@ public final class Oracle {
     }
 
     private static final class Fault extends RuntimeException {
+        private static final long serialVersionUID = 1;
         final int kind;
         final int place;
 

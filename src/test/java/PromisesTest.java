@@ -1,24 +1,6 @@
-import java.nio.ByteBuffer;
-import java.nio.charset.StandardCharsets;
-import java.util.Arrays;
-
 /** Each promise of the document by its number: ordinary inputs, edges, wrong inputs, with answers reckoned by hand. */
-public final class PromisesTest {
-    private static final int NONE = FloorsByLot.NONE;
-    private static int wrong = 0;
-    private static int asked = 0;
-
-    /** Two flats above one another, two households who live in each other's better one. */
-    private static final String SWAP = "flat 0 0 size 1;flat 1 0 size 2;household 1 noise 3 ears 5;household 2 noise 7 ears 2;"
-        + "lives 0 1;lives 1 0;worth : (2 - people * 2 + 1) * (1 - size * 2 + 2);";
-
-    /** Four flats, three households, one of them away; who has more people needs more room. */
-    private static final String FOUR = "flat 0 0 size 2;flat 1 0 size 3;flat 2 0 size 1 light 5;flat 1 1 size 2 faults 1;"
-        + "household 2 noise 3 ears 1;household 1 noise 2 ears 4;household 3 age 70;lives 0 1;lives 1 0;"
-        + "may : size > people - 1;worth : light * 2 + floor - faults * 3 - was;quarter 5;";
-
-    /** Three flats on floors 0, 3, 9 where any may live. */
-    private static final String TALL = "flat 0 0 size 1;flat 3 0 size 1;flat 9 0 size 1;household 1;household 1;";
+public final class PromisesTest extends Told {
+    private static int latest = 0;
 
     public static void main(String[] args) {
         newObject();
@@ -56,45 +38,15 @@ public final class PromisesTest {
         lists();
         images();
         count();
-        System.out.println(wrong == 0 ? "all " + asked + " answers are as due" : wrong + " answers are not as due");
-        if (wrong != 0) {
-            System.exit(1);
-        }
+        end();
     }
 
     private static void due(int promise, long got, long want) {
-        asked++;
-        if (got != want) {
-            wrong++;
-            StackTraceElement at = new Throwable().getStackTrace()[1];
-            System.out.println("promise " + promise + ", line " + at.getLineNumber() + ": answered " + got + ", due is " + want);
+        if (promise != latest) {
+            latest = promise;
+            promise(promise, "");
         }
-    }
-
-    private static int read(FloorsByLot x, String text) {
-        byte[] bytes = Arrays.copyOf(text.getBytes(StandardCharsets.ISO_8859_1), (text.length() + 19) / 20 * 20);
-        ByteBuffer four = ByteBuffer.wrap(bytes);
-        for (int i = 0; i < bytes.length; i += 20) {
-            x.feed(four.getInt(), four.getInt(), four.getInt(), four.getInt(), four.getInt());
-        }
-        return x.tower(text.length());
-    }
-
-    private static FloorsByLot of(String text) {
-        FloorsByLot x = new FloorsByLot();
-        int lines = read(x, text);
-        if (lines < 0) {
-            wrong++;
-            System.out.println("can't be read (" + lines + ", place " + x.fault(1) + "): " + text);
-        }
-        return x;
-    }
-
-    private static void tray(FloorsByLot x, int tray, long... values) {
-        x.numbers(tray, 3, values.length);
-        for (int i = 0; i < values.length; i++) {
-            x.write(tray, i, values[i]);
-        }
+        due(got, want);
     }
 
     private static void newObject() {

@@ -69,10 +69,9 @@ public final class RandomRunsTest {
 
     private boolean feed(String text) throws Exception {
         log.add("text: " + text);
-        byte[] bytes = Arrays.copyOf(text.getBytes(java.nio.charset.StandardCharsets.ISO_8859_1), (text.length() + 19) / 20 * 20);
-        java.nio.ByteBuffer b = java.nio.ByteBuffer.wrap(bytes);
-        for (int i = 0; i < bytes.length; i += 20) {
-            if (!same("feed", b.getInt(), b.getInt(), b.getInt(), b.getInt(), b.getInt())) {
+        java.nio.ByteBuffer four = Told.inTwenties(text);
+        while (four.hasRemaining()) {
+            if (!same("feed", four.getInt(), four.getInt(), four.getInt(), four.getInt(), four.getInt())) {
                 return false;
             }
         }

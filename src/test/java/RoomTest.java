@@ -1,13 +1,11 @@
 import java.lang.management.ManagementFactory;
 import java.lang.reflect.Method;
 import java.lang.reflect.Modifier;
-import java.nio.ByteBuffer;
-import java.nio.charset.StandardCharsets;
 import java.util.Arrays;
 import java.util.Random;
 
 /** What an object and 512 of its dearest calls take of the room; and that no call ever throws, whatever it is given. */
-public final class RoomTest {
+public final class RoomTest extends Told {
     private static final com.sun.management.ThreadMXBean ROOM = (com.sun.management.ThreadMXBean) ManagementFactory.getThreadMXBean();
     private static int wrong = 0;
 
@@ -32,15 +30,6 @@ public final class RoomTest {
             s.append("lives ").append(h).append(' ').append(h).append(';');
         }
         return s + laws;
-    }
-
-    private static int read(FloorsByLot x, String text) {
-        byte[] bytes = Arrays.copyOf(text.getBytes(StandardCharsets.ISO_8859_1), (text.length() + 19) / 20 * 20);
-        ByteBuffer four = ByteBuffer.wrap(bytes);
-        for (int i = 0; i < bytes.length; i += 20) {
-            x.feed(four.getInt(), four.getInt(), four.getInt(), four.getInt(), four.getInt());
-        }
-        return x.tower(text.length());
     }
 
     private static void within(String what, long bytes, long most) {
