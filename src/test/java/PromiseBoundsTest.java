@@ -141,6 +141,7 @@ public final class PromiseBoundsTest extends Told {
         due(x.count(6), 0);
         due(x.undo(1), -3);
         due(x.count(0), 0);
+        firstBytesAlone();
         x.draws(0);
         Told.feed(x, "quarter 9;quarter 8;");
         due(x.tower(0), 0);
@@ -172,6 +173,41 @@ public final class PromiseBoundsTest extends Told {
         due(read(x, "flat"), -32);
         due(read(x, "flat 10"), -33);
         due(read(x, households(8)), -34);
+    }
+
+    /** What stands on the tape behind the first n bytes is no part of the text, and what was told in an earlier one isn't either. */
+    private static void firstBytesAlone() {
+        String[] tapes = {"quarters", "quarter 1234;", "quarter 1    ;", "quarter 12;", "flatquarter 1;"};
+        int[] many = {7, 11, 12, 10, 4};
+        for (int k = 0; k < tapes.length; k++) {
+            FloorsByLot x = new FloorsByLot();
+            Told.feed(x, tapes[k]);
+            due(x.tower(many[k]), -32);
+            due(x.fault(1), many[k]);
+        }
+        FloorsByLot word = new FloorsByLot();
+        due(read(word, " ".repeat(893) + "quarter"), -32);
+        due(word.fault(1), 900);
+        FloorsByLot again = of("flat 1 0 size 9 light 8 faults 7;household 6 noise 5 ears 4 stairs 3 age 2;lives 0 0;worth : 9;may : 1 = 2;quarter 1;");
+        again.draws(0);
+        due(read(again, "flat 0 0 size 1;household 1;"), 2);
+        int[] flat = {0, 0, 1, 0, 0, NONE};
+        int[] household = {1, 0, 0, 0, 0, NONE};
+        for (int what = 0; what < 6; what++) {
+            due(again.flat(0, what), flat[what]);
+            due(again.household(0, what), household[what]);
+        }
+        due(again.worth(0, 0), 0);
+        due(again.may(0, 0), 1);
+        due(again.count(3), 0);
+        due(again.times(0, 0), 0);
+        due(again.draws(0), 0);
+        due(again.times(0, 0), 1);
+        due(read(again, "flat 0 0 size 1;household 1;worth : 7;"), 3);
+        due(again.times(0, 0), 0);
+        due(again.worth(0, 0), 7);
+        due(read(again, "flat 0 0 size 1;household 1;may : 2 > 1;"), 3);
+        due(again.worth(0, 0), 0);
     }
 
     private static void fault() {
@@ -477,6 +513,7 @@ public final class PromiseBoundsTest extends Told {
         due(x.near(8, 8), -2);
         due(of(CROWD).near(0, 1), 0);
         due(of("flat 8 3 size 1;flat 9 3 size 1;household 1;household 1;").near(0, 1), 2);
+        due(of("flat 9 3 size 1;flat 8 3 size 1;household 1;household 1;").near(0, 1), 2);
         due(of("flat 9 3 size 1;flat 0 3 size 1;household 1;household 1;").near(0, 1), 0);
         due(of("flat 0 3 size 1;flat 1 0 size 1;household 1;household 1;").near(0, 1), 0);
         due(of("flat 7 3 size 1;flat 9 3 size 1;household 1;household 1;").near(0, 1), 0);
@@ -532,6 +569,7 @@ public final class PromiseBoundsTest extends Told {
         promise(27, "HOUSEHOLDS each of whom, were it alone not there, there would be MAPS (if there are none now), as bits; 0 with MAPS.");
         due(new FloorsByLot().tooMany(), 0);
         due(of(FULL).tooMany(), 0);
+        due(of(ONE).tooMany(), 0);
         due(of(flats(6) + households(7)).tooMany(), 127);
         due(of(flats(5) + households(7)).tooMany(), 0);
         due(of(CROWD).tooMany(), 3);
@@ -606,6 +644,7 @@ public final class PromiseBoundsTest extends Told {
         due(of(spoilt + households(3) + "worth : 0 - faults;").bestMending(), 1);
         due(of(spoilt + households(3) + "worth : faults;").bestMending(), NONE);
         due(of(spoilt + households(3)).bestMending(), NONE);
+        due(of("flat 0 0 size 1 faults 1;household 1;worth : 0 - faults;").bestMending(), 0);
         due(of(spoilt + households(1) + "worth : 0 - faults;").bestMending(), 0);
         due(of(spoilt + households(4) + "worth : 0 - faults;").bestMending(), NONE);
         due(of(spoilt + households(1) + "may : faults = 0;worth : 0 - faults;").bestMending(), NONE);
@@ -723,6 +762,9 @@ public final class PromiseBoundsTest extends Told {
         due(of(TALL + "lives 0 2;lives 1 0;").nearest(), 4);
         // all to flats of one floor: like floors, unlike trips
         due(of("flat 0 0 size 1;flat 0 1 size 1;flat 0 2 size 1;household 1;lives 0 1;").nearest(), 0);
+        due(of("flat 1 0 size 1;flat 0 0 size 1;household 1;").nearest(), 1);
+        // from floor 8 down to 0 and 8 empty ahead, or up to 9
+        due(of("flat 8 0 size 1;flat 0 0 size 1;flat 9 0 size 1;household 1;lives 0 0;may : was = 0;").nearest(), 1);
         FloorsByLot hundred = of(flats(8) + "household 4;household 6;household 7;may : floor < people;");
         due(hundred.maps(), 4 * 5 * 5);
         due(hundred.nearest(), 0);

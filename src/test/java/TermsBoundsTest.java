@@ -1,4 +1,6 @@
 import java.util.Arrays;
+import java.util.List;
+import java.util.function.Consumer;
 
 /** Every boundary that the document's Terms name beyond the text: laws, maps, draws, rings, deeds, undoing, years, trays, images. */
 public final class TermsBoundsTest extends Told {
@@ -28,6 +30,7 @@ public final class TermsBoundsTest extends Told {
         whyNot();
         undone();
         undoneAsAWhole();
+        undoneSingly();
         ringsAside();
         ofLikeOnes();
         harm();
@@ -354,6 +357,17 @@ public final class TermsBoundsTest extends Told {
         FloorsByLot alone = of(flats(7) + numbered(7) + living(7) + "worth : was;");
         due(alone.ringsMany(), 0);
         due(alone.rings(), 0);
+        FloorsByLot dear = of(flats(7) + numbered(7) + living(7) + "worth : floor;");
+        for (int h = 0; h < 7; h++) {
+            due(alone.byRings(h), h);
+            due(dear.byRings(h), h);
+        }
+        FloorsByLot dislike = of(flats(2) + households(2) + living(2) + "worth : 0 - 5 - was;");
+        due(dislike.rings(), 2);
+        FloorsByLot hate = of(flats(2) + households(2) + living(2) + "worth : 1 - was - 999 * 999 * 999;");
+        due(hate.worth(0, 0), -1_000_000);
+        due(hate.worth(0, 1), -999_999);
+        due(hate.rings(), 2);
         FloorsByLot pairs = of(flats(8) + numbered(7) + living(7) + "may : floor = people and not floor = 2 and not floor = 4 and not floor = 6 or floor = people - 2 and not floor = 1 and not floor = 3 and not floor = 5;worth : 1 - was;");
         due(pairs.ringsMany(), 3);
         due(pairs.rings(), 6);
@@ -477,6 +491,9 @@ public final class TermsBoundsTest extends Told {
         tray(x, 0, 1000, 1000);
         due(x.judge(0, 0), 1);
         due(x.judge(0, 1), 2);
+        tray(x, 0);
+        due(x.judge(0, 0), NONE);
+        due(x.judge(0, 1), 0);
         tray(x, 0, 2002, 2002);
         due(x.judge(0, 0), 1);
         tray(x, 0, 2102, 2102);
@@ -538,6 +555,28 @@ public final class TermsBoundsTest extends Told {
         due(Arrays.equals(ahead, facts(x)) ? 1 : 0, 1);
     }
 
+    /** Each kind of call, made behind another one, is undone to what was right ahead of it. */
+    private static void undoneSingly() {
+        says("can be UNDONE each as a whole, the latest first");
+        List<Consumer<FloorsByLot>> calls = List.of(x -> x.draws(1), x -> x.draws(0), FloorsByLot::rings, x -> x.leaves(0), x -> x.moves(0, 2),
+            x -> x.spoils(0), x -> x.mends(0), x -> x.perform(0), x -> x.year(9, 30));
+        for (Consumer<FloorsByLot> first : calls) {
+            for (Consumer<FloorsByLot> second : calls) {
+                FloorsByLot x = of(TALL.replace("size 1", "size 1 faults 1") + "lives 0 0;lives 1 1;worth : 1 - was;");
+                tray(x, 0, 4004, 1000, 2001, 2100);
+                x.spoils(1);
+                first.accept(x);
+                int[] ahead = facts(x);
+                int can = x.count(6);
+                second.accept(x);
+                if (x.count(6) > can) {
+                    due(x.undo(1), can);
+                }
+                due(Arrays.equals(ahead, facts(x)) ? 1 : 0, 1);
+            }
+        }
+    }
+
     private static int[] facts(FloorsByLot x) {
         int[] facts = new int[200];
         int at = 0;
@@ -568,6 +607,10 @@ public final class TermsBoundsTest extends Told {
         tray(x, 0, 3000, 2001);
         due(x.perform(0), 2);
         due(x.count(6), 2);
+        tray(x, 0, 2001, 3000);
+        due(x.perform(0), 2);
+        due(x.count(6), 3);
+        due(x.undo(1), 2);
         tray(x, 0, 3001, 3000);
         due(x.perform(0), 0);
         due(x.count(6), 2);
@@ -779,6 +822,9 @@ public final class TermsBoundsTest extends Told {
         for (int kind = 0; kind < 5; kind++) {
             for (int from : new int[] {1, -1000, Integer.MIN_VALUE, 1 << 30}) {
                 yearIs(TALL + "lives 0 1;lives 1 0;worth : (1 - was) * 3;", seedOf(kind, from), 1);
+                yearIs(ONE, seedOf(kind, from), 1);
+                yearIs(ONE, seedOf(kind, from + 100), 1);
+                yearIs(ONE + flats(8).substring(16), seedOf(kind, from), 30);
             }
         }
         FloorsByLot x = of(TALL);
