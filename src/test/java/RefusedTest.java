@@ -75,7 +75,8 @@ public final class RefusedTest extends Told {
     }
 
     public static void main(String[] args) {
-        says("Refused calls answer by a code and change nothing");
+        says("Refused calls answer by a code and change nothing: -2 there is none such; -3 a number can't be; -4 too many; -5 it can't be now;"
+            + " -6 a TRAY is MISSING; -7 it has no such number; -11 to -13 why not (1 to 3); -30 less the FAULT: a text.");
         everyCase(new Case("a new object", FloorsByLot::new), 0, 0);
         everyCase(new Case("a busy tower", RefusedTest::busy), 4, 3);
         everyCase(new Case("a full tower", RefusedTest::full), 8, 7);

@@ -347,7 +347,7 @@ public final class TermsBoundsTest extends Told {
         due(like.byRings(0), 1);
         due(like.byRings(1), 0);
         due(like.byRings(2), 2);
-        says("whoever comes round gets these FLATS, and both go out of it (they and FLATS); and so on with the others, till all are out.");
+        says("whoever comes round gets these FLATS, and both go out of it (they and FLATS); and so on with the others, till all are out. RINGS: all of that, done at once.");
         FloorsByLot seven = of(flats(7) + numbered(7) + living(7) + "may : floor = people or floor = people - 7;worth : 1 - was;");
         due(seven.ringsMany(), 1);
         due(seven.rings(), 7);
@@ -631,7 +631,7 @@ public final class TermsBoundsTest extends Told {
     }
 
     private static void ofLikeOnes() {
-        says("of like ones the first MAP.");
+        says("BEST: the MAP of most WORTH in sum; FAIREST: that in which the least WORTH of one is greatest; STILLEST: that of the least HARM; of like ones the first MAP.");
         FloorsByLot x = of(flats(8).replace("flat 1 0", "flat 9 3") + households(7));
         for (int h = 0; h < 7; h++) {
             due(x.best(10 + h), h);

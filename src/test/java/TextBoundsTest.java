@@ -121,8 +121,21 @@ public final class TextBoundsTest extends Told {
             good(text.toString(), 3);
             fault(text + ";", 2, text.length());
         }
+        says("FLAT: light N | faults N. FLAG: noise N | ears N | stairs N | age N.");
         good("flat 1 2 size 3;", 1);
         good("household 1;", 1);
+        for (String word : new String[] {"light", "faults"}) {
+            good("flat 1 2 size 3 " + word + " 1;", 1);
+            fault("household 1 " + word + " 1;", 2, 12);
+        }
+        for (String word : new String[] {"noise", "ears", "stairs", "age"}) {
+            good("household 1 " + word + " 1;", 1);
+            fault("flat 1 2 size 3 " + word + " 1;", 2, 16);
+        }
+        for (String word : new String[] {"floor", "column", "size", "people", "was", "times", "quarter", "flat", "not"}) {
+            fault("household 1 " + word + " 1;", 2, 12);
+            fault("flat 1 2 size 3 " + word + " 1;", 2, 16);
+        }
     }
 
     /** Numbers from low to high stand between two pieces of a text, others don't. */
